@@ -60,10 +60,9 @@ public final class StampMaker {
         return STAMP_LETTERS;
     }
 
-    /** Letter i of the stamp that was made latest, 0 when there is none. */
+    /** Letter i of the stamp that was made latest, 0 when there is none: the row holds zeros until one is made. */
     public int letter(int i) {
-        if (made == 0 || i < 0 || i >= STAMP_LETTERS) return 0;
-        return latestLetters[i];
+        return i >= 0 && i < STAMP_LETTERS ? latestLetters[i] : 0;
     }
 
     /** A character is typed. */
@@ -149,7 +148,7 @@ public final class StampMaker {
         for (int i = from; i < to; i++) {
             int v = worthOf(typed[i]);
             if (v < 0) return -1;
-            bits = bits << 5 | v;
+            bits = (bits << 5) | v;
         }
         return bits;
     }
@@ -336,7 +335,7 @@ public final class StampMaker {
 
         private static int numberOf(Key key, long fields, int at) {
             int number = 0;
-            for (int i = at; i < at + 4; i++) number = number << 8 | blockByte(key, fields, i);
+            for (int i = at; i < at + 4; i++) number = (number << 8) | blockByte(key, fields, i);
             return number;
         }
 
@@ -351,9 +350,9 @@ public final class StampMaker {
         private void stretch() {
             for (int t = 16; t < ROUNDS; t++) {
                 int x = w[t - 15];
-                int s = ror(x, 7) ^ ror(x, 18) ^ x >>> 3;
+                int s = ror(x, 7) ^ ror(x, 18) ^ (x >>> 3);
                 int y = w[t - 2];
-                int r = ror(y, 17) ^ ror(y, 19) ^ y >>> 10;
+                int r = ror(y, 17) ^ ror(y, 19) ^ (y >>> 10);
                 w[t] = w[t - 16] + s + w[t - 7] + r;
             }
         }
@@ -362,8 +361,8 @@ public final class StampMaker {
             int a = state[0], b = state[1], c = state[2], d = state[3];
             int e = state[4], f = state[5], g = state[6], h = state[7];
             for (int t = 0; t < ROUNDS; t++) {
-                int u = h + (ror(e, 6) ^ ror(e, 11) ^ ror(e, 25)) + (e & f ^ ~e & g) + ROUND_NUMBERS[t] + w[t];
-                int v = (ror(a, 2) ^ ror(a, 13) ^ ror(a, 22)) + (a & b ^ a & c ^ b & c);
+                int u = h + (ror(e, 6) ^ ror(e, 11) ^ ror(e, 25)) + ((e & f) ^ (~e & g)) + ROUND_NUMBERS[t] + w[t];
+                int v = (ror(a, 2) ^ ror(a, 13) ^ ror(a, 22)) + ((a & b) ^ (a & c) ^ (b & c));
                 h = g;
                 g = f;
                 f = e;
@@ -384,7 +383,7 @@ public final class StampMaker {
         }
 
         private static int ror(int x, int n) {
-            return x >>> n | x << (32 - n);
+            return (x >>> n) | (x << (32 - n));
         }
     }
 }
