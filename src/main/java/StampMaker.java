@@ -343,7 +343,7 @@ public final class StampMaker {
         private static int blockByte(Key key, long fields, int at) {
             int behind = at - key.size();
             if (behind < 0) return key.octetAt(at);
-            if (behind < FIELD_BYTES) return (int) (fields << 1 >>> (48 - 8 * behind)) & 255;
+            if (behind < FIELD_BYTES) return (int) ((fields << 1) >>> (48 - 8 * behind)) & 255;
             return behind == FIELD_BYTES ? 0x80 : 0;
         }
 
