@@ -1,39 +1,36 @@
-/** Counts the answers that are not as due, and ends a test by them. */
+/** Counts the answers that were looked at and those that were not as due, and ends a test program by them. */
 final class Due {
-    private static int calls = 0;
+    private static int looked = 0;
     private static int wrong = 0;
 
     private Due() {
     }
 
     static void is(String call, long got, long want) {
-        calls++;
-        if (got == want) return;
-        wrong++;
-        System.out.println(call + " answered " + got + ", due is " + want);
+        is(call, String.valueOf(got), String.valueOf(want));
     }
 
     static void is(String call, String got, String want) {
-        calls++;
-        if (got.equals(want)) return;
+        looked++;
+        if (!got.equals(want)) fails(call + " answered " + got + ", due is " + want);
+    }
+
+    static void fails(String what) {
         wrong++;
-        System.out.println(call + " answered " + got + ", due is " + want);
+        System.out.println(what);
     }
 
-    /** digest(i) must throw just the exception that the document names. */
-    static void noDigest(StampMaker x, int i) {
-        Class<?> thrown = null;
-        try {
-            x.digest(i);
-        } catch (RuntimeException e) {
-            thrown = e.getClass();
-        }
-        is("digest(" + i + ") throws", String.valueOf(thrown), String.valueOf(ArrayIndexOutOfBoundsException.class));
+    static int looked() {
+        return looked;
     }
 
-    /** Prints what was counted; exit code 1 when something was wrong or nothing was asked. */
+    static int wrong() {
+        return wrong;
+    }
+
+    /** Prints what was counted; exit code 1 when something was wrong or nothing was looked at. */
     static void end() {
-        System.out.println(calls + " answers looked at, " + wrong + " not as due");
-        if (wrong != 0 || calls == 0) System.exit(1);
+        System.out.println(looked + " answers looked at, " + wrong + " not as due");
+        if (wrong != 0 || looked == 0) System.exit(1);
     }
 }

@@ -49,9 +49,9 @@ final class PlainStamps {
         if (!within(key, 0, keys.size() - 1)) return -21;
         if (!within(value, 1, 99999) || !within(kind, 0, 9) || !within(day, 0, 65535)) return -22;
         if (!within(day, keys.get(key).from, keys.get(key).until)) return -23;
-        byte[] row = keys.get(key).row();
-        latest = Stamps.letters(row, key, kind, value, (int) day, (int) made);
-        digest = Stamps.digest(row, key, kind, value, (int) day, (int) made);
+        Stamp stamp = new Stamp(keys.get(key).row(), key, kind, value, (int) day, (int) made);
+        latest = stamp.letters();
+        digest = stamp.digest();
         keysThatMade.add(key);
         made++;
         return 16;
@@ -74,7 +74,7 @@ final class PlainStamps {
         StringBuilder letters = new StringBuilder();
         StringBuilder bits = new StringBuilder();
         for (int c : was) {
-            int v = within(c, 1, 127) ? Stamps.ALPHABET.indexOf(c) : -1;
+            int v = within(c, 1, 127) ? Stamp.ALPHABET.indexOf(c) : -1;
             if (v < 0) return -3;
             letters.append((char) c);
             bits.append(Integer.toBinaryString(32 + v).substring(1));
@@ -89,9 +89,9 @@ final class PlainStamps {
         int stampDay = Integer.parseInt(bits.substring(25, 41), 2);
         long serial = Integer.parseInt(bits.substring(41, 55), 2);
         if (key >= keys.size() || kind > 9 || !within(value, 1, 99999)) return -4;
-        byte[] row = keys.get(key).row();
-        digest = Stamps.digest(row, key, kind, value, stampDay, (int) serial);
-        if (!letters.equals(Stamps.letters(row, key, kind, value, stampDay, (int) serial))) return -5;
+        Stamp said = new Stamp(keys.get(key).row(), key, kind, value, stampDay, (int) serial);
+        digest = said.digest();
+        if (!letters.equals(said.letters())) return -5;
         if (!within(day, stampDay, stampDay + 100L) || !within(day, keys.get(key).from, keys.get(key).until)) return -6;
         if (givenBack.contains(serial)) return -8;
         boolean again = spendings.containsKey(serial);

@@ -4,19 +4,18 @@ import java.util.Random;
 import java.util.Set;
 import java.util.TreeSet;
 
-/** All promises: runs of 512 calls, the same ones each time, whose answers are those of the plain program. */
+/** All promises: runs of up to 512 calls, the same ones each time, whose answers are those of the plain program. */
 public final class RandomRunsTest {
     private static final int RUNS = 400;
-    private static final int CALLS = 512;
+    private static final int CALLS_OF_A_STEP = 48;
     private static final long[] FAR = {Long.MIN_VALUE, -65536, -1, 16383, 16384, 65535, 65536, 1L << 32, Long.MAX_VALUE};
     private static final Set<Long> CHECK_ANSWERS = new TreeSet<>();
 
     private final Random random;
     private final String name;
-    private final StampMaker x = new StampMaker();
+    private final Maker x = new Maker();
     private final PlainStamps plain = new PlainStamps();
     private final List<String> known = new ArrayList<>();
-    private int calls = 0;
 
     private RandomRunsTest(int seed) {
         random = new Random(seed);
@@ -33,7 +32,8 @@ public final class RandomRunsTest {
     private void run() {
         int days = random.nextBoolean() ? 150 : 65536;
         for (int k = random.nextInt(4); k > 0; k--) openKey(days);
-        while (calls < CALLS) step(days);
+        while (x.left() >= CALLS_OF_A_STEP) step(days);
+        while (x.left() > 0) spent();
     }
 
     private void step(int days) {
@@ -51,8 +51,7 @@ public final class RandomRunsTest {
     }
 
     private void is(String call, long got, long want) {
-        calls++;
-        Due.is(name + calls + ": " + call, got, want);
+        Due.is(name + x.calls() + ": " + call, got, want);
     }
 
     private long day(int days) {
@@ -77,7 +76,6 @@ public final class RandomRunsTest {
         int key = keyNumber();
         for (int n = random.nextInt(5) == 0 ? 34 : 2; n > 0; n--) {
             byte b = (byte) random.nextInt(256);
-            calls++;
             x.octet(key, b);
             plain.octet(key, b);
         }
@@ -100,15 +98,20 @@ public final class RandomRunsTest {
         if (choice == 0) return "0".repeat(random.nextInt(45));
         if (choice == 1 || known.isEmpty()) {
             int key = keyNumber() & 15;
-            String forged = Stamps.letters(plain.bytesOf(key), key, random.nextInt(11), 1 + random.nextInt(100100),
-                random.nextInt(days), random.nextInt((int) plain.serial() + 3));
+            String forged = new Stamp(plain.bytesOf(key), key, random.nextInt(11), 1 + random.nextInt(100100),
+                random.nextInt(days), random.nextInt((int) plain.serial() + 3)).letters();
             known.add(forged);
             return forged;
         }
         String letters = known.get(random.nextInt(known.size()));
         if (choice > 3) return letters;
         int place = random.nextInt(16);
-        return choice == 2 ? Stamps.altered(letters, place) : letters.substring(0, place) + "I" + letters.substring(place + 1);
+        return choice == 2 ? altered(letters, place) : letters.substring(0, place) + "I" + letters.substring(place + 1);
+    }
+
+    private static String altered(String letters, int place) {
+        char other = Stamp.ALPHABET.charAt((Stamp.ALPHABET.indexOf(letters.charAt(place)) + 1) % 32);
+        return letters.substring(0, place) + other + letters.substring(place + 1);
     }
 
     private long checkDay(String letters, int days) {
@@ -119,7 +122,10 @@ public final class RandomRunsTest {
 
     private static int stampDay(String letters) {
         StringBuilder bits = new StringBuilder();
-        for (int i = 0; i < 11; i++) bits.append(Integer.toBinaryString(32 + Stamps.ALPHABET.indexOf(letters.charAt(i))).substring(1));
+        for (int i = 0; i < Stamp.SEAL; i++) {
+            int worth = Stamp.ALPHABET.indexOf(letters.charAt(i));
+            bits.append(Integer.toBinaryString(32 + worth).substring(1));
+        }
         return Integer.parseInt(bits.substring(25, 41), 2);
     }
 
@@ -133,7 +139,6 @@ public final class RandomRunsTest {
     }
 
     private void type(int c) {
-        calls++;
         x.type(c);
         plain.type(c);
     }
@@ -159,8 +164,7 @@ public final class RandomRunsTest {
             if (plain.hasDigest(i)) {
                 is("digest(" + i + ")", x.digest(i), plain.digest(i));
             } else {
-                calls++;
-                Due.noDigest(x, i);
+                x.hasNoDigest(i);
             }
         }
     }
