@@ -19,9 +19,9 @@ final class Doc {
         return !SECTIONS.isEmpty();
     }
 
-    /** What stands under a heading, spaces and ends of lines made one space; empty when there is no such heading. */
+    /** What stands under a heading, in one line and without the call's declaration; empty when there is no such heading. */
     static String under(String heading) {
-        return SECTIONS.getOrDefault(heading, "");
+        return SECTIONS.getOrDefault(heading, "").replaceFirst("^`[^`]*`: ", "");
     }
 
     /** The headings that tell what the program does. */
@@ -34,9 +34,9 @@ final class Doc {
         return headings;
     }
 
-    /** The parts of sentences under a heading, without the call's first line; ".." is no end of a sentence. */
+    /** The parts of sentences under a heading, from comma to comma; ".." is no end of a part. */
     static String[] parts(String heading) {
-        return under(heading).replaceFirst("^`[^`]*`: ", "").split("(?<=[^.][.;:])\\s");
+        return under(heading).split("(?<=[^.][.;:,])\\s");
     }
 
     private static Map<String, String> read() {

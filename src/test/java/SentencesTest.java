@@ -1,4 +1,4 @@
-/** Each part of a sentence of the document has a test that is named by words of it. */
+/** Each part of each sentence of the document, from comma to comma, has a test that is named by words of it. */
 public final class SentencesTest {
     public static void main(String[] args) {
         runAll();
@@ -36,11 +36,13 @@ public final class SentencesTest {
             int start = text.indexOf(words);
             for (int i = start; start >= 0 && i < start + words.length(); i++) named[i] = true;
         }
+        int end = 0;
         for (String part : Doc.parts(heading)) {
-            int start = text.indexOf(part);
+            int start = text.indexOf(part, end);
+            end = start + part.length();
             boolean found = false;
-            for (int i = start; i < start + part.length(); i++) found |= named[i];
-            Due.is("a test is named by words of: " + heading + " | " + part, String.valueOf(found), "true");
+            for (int i = start; i < end; i++) found |= named[i];
+            Due.is("whether a test is named by words of: " + heading + " | " + part, String.valueOf(found), "true");
         }
     }
 }

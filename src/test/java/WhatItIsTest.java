@@ -8,7 +8,8 @@ public final class WhatItIsTest {
 
     static void all() {
         Sentence.under("What it is");
-        Sentence.test("Stamps that are rows of letters", "sixteen of them, typed again as they were told", WhatItIsTest::rows);
+        Sentence.test("Stamps that are rows of letters: value, kind, day, serial number, key and a digest",
+            "sixteen of them, typed again as they were told", WhatItIsTest::rows);
         Sentence.test("a digest that only the key tells", "the same fields under other bytes", WhatItIsTest::onlyTheKeyTells);
         Sentence.test("each is accepted once", "the second time it is not", WhatItIsTest::acceptedOnce);
         Sentence.test("each is accepted once", "also when another one was accepted between", WhatItIsTest::acceptedOnceEach);
