@@ -13,7 +13,8 @@ public final class TermsDigestTest {
 
     static void all() {
         Sentence.under("Terms");
-        Sentence.test("THE DIGEST is 32 bytes, of a MESSAGE", "byte 31 is the last, there is no byte 32", TermsDigestTest::thirtyTwoBytes);
+        Sentence.test("THE DIGEST is 32 bytes, of a MESSAGE", "byte 31 is the last, there is no byte 32",
+            TermsDigestTest::thirtyTwoBytes);
         Sentence.test("the key's bytes, and behind them seven bytes", "no bytes, one, 31 and 32", () -> {
             for (int count : new int[] {0, 1, 31, 32}) isReckoned(keyBytes(count, 3));
         });
@@ -47,7 +48,8 @@ public final class TermsDigestTest {
         });
         Sentence.test("For each block: for t from 16 to 63, wt is w(t - 16) + s + w(t - 7) + r", "messages of many kinds",
             () -> many(1));
-        Sentence.test("s being ror(x, 7) xor ror(x, 18) xor shr(x, 3) of x = w(t - 15)", "messages of many kinds", () -> many(6));
+        Sentence.test("s being ror(x, 7) xor ror(x, 18) xor shr(x, 3) of x = w(t - 15)", "messages of many kinds", () ->
+            many(6));
         Sentence.test("and r being ror(x, 17) xor ror(x, 19) xor shr(x, 10) of x = w(t - 2)", "messages of many kinds",
             () -> many(7));
         Sentence.test("With a .. h as the state is, for t from 0 to 63", "messages of many kinds", () -> many(2));
