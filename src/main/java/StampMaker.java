@@ -1,4 +1,5 @@
-/** Makes stamps that are rows of letters, and checks what is typed: each is accepted once, or given back once. */
+// What each call promises stands in ../shared/DOC.md. The digest is reckoned here, since ../shared/LANGUAGE.md allows
+// none of the library's.
 public final class StampMaker {
     public static final int UNKNOWN = -21, OUTSIDE = -22, STATE = -23, ROOM = -24;
 
@@ -13,7 +14,7 @@ public final class StampMaker {
     private static final int DAY_LIMIT = 65535;
     private static final int DAYS_GOOD = 100;
 
-    private static final int NOT_SIXTEEN = 1, NO_LETTER = 2, NOT_AS_SAID = 3, OTHER_DIGEST = 4,
+    private static final int NO_REASON = 0, NOT_SIXTEEN = 1, NO_LETTER = 2, NOT_AS_SAID = 3, OTHER_DIGEST = 4,
         WRONG_DAY = 5, WAS_SPENT = 6, WAS_GIVEN_BACK = 7;
 
     private final Key[] keys = new Key[KEY_LIMIT];
@@ -27,11 +28,9 @@ public final class StampMaker {
     private final Ledger ledger = new Ledger();
     private final Digest latestDigest = new Digest();
 
-    /** No keys, no stamps. */
     public StampMaker() {
     }
 
-    /** A key more, that holds from a day to another one: its number, OUTSIDE or ROOM. */
     public int key(long from, long until) {
         if (!isDay(from) || !isDay(until) || from > until) return OUTSIDE;
         if (keyCount >= KEY_LIMIT) return ROOM;
@@ -39,13 +38,11 @@ public final class StampMaker {
         return keyCount++;
     }
 
-    /** A byte more of a key that has not made a stamp yet. */
     public void octet(int key, byte b) {
         Key owner = keyNumbered(key);
         if (owner != null) owner.take(b);
     }
 
-    /** Makes a stamp with the next serial number: 16, UNKNOWN, OUTSIDE, STATE or ROOM. */
     public int make(int key, int value, int kind, long day) {
         Key maker = keyNumbered(key);
         if (maker == null) return UNKNOWN;
@@ -56,37 +53,34 @@ public final class StampMaker {
         made++;
         maker.close();
         latestDigest.reckon(maker, fields);
-        writeLetters(fields, latestDigest.firstBits());
+        writeLetters(fields, latestDigest.first25Bits());
         return STAMP_LETTERS;
     }
 
-    /** Letter i of the stamp that was made latest, 0 when there is none: the row holds zeros until one is made. */
+    // The row holds zeros until a stamp is made: nothing else need tell that there is none.
     public int letter(int i) {
         return i >= 0 && i < STAMP_LETTERS ? latestLetters[i] : 0;
     }
 
-    /** A character is typed. */
     public void type(int c) {
         if (typedCount >= TYPED_LIMIT) return;
         typed[typedCount] = c;
         typedCount++;
     }
 
-    /** Checks what was typed: 1, -1 less the reason, or OUTSIDE. */
     public int check(long day) {
         if (!isDay(day)) return OUTSIDE;
         checkCount++;
         int length = typedCount;
         typedCount = 0;
-        if (length != STAMP_LETTERS) return -1 - NOT_SIXTEEN;
+        if (length != STAMP_LETTERS) return refusedFor(NOT_SIXTEEN);
         long fields = typedBits(0, FIELD_LETTERS);
         long seal = typedBits(FIELD_LETTERS, STAMP_LETTERS);
-        if (fields < 0 || seal < 0) return -1 - NO_LETTER;
+        if (fields < 0 || seal < 0) return refusedFor(NO_LETTER);
         int reason = reasonAgainst(fields, seal, (int) day);
-        return reason != 0 ? -1 - reason : accepted(Fields.serialOf(fields), (int) day);
+        return reason != NO_REASON ? refusedFor(reason) : spendOrRefuse(Fields.serialOf(fields), (int) day);
     }
 
-    /** Of the latest stamp that was accepted or found spent: its serial number, or the day or the check of its spending. */
     public int first(int what) {
         if (what < 0 || what > 2) return OUTSIDE;
         if (latestSpent < 0) return -1;
@@ -94,25 +88,21 @@ public final class StampMaker {
         return what == 1 ? ledger.dayOf(latestSpent) : ledger.checkOf(latestSpent);
     }
 
-    /** Gives a stamp back: 1, or 0 when it can't be. */
     public int refund(long serial) {
         if (serial < 0 || serial >= made || ledger.fateOf(serial) != Ledger.NOTHING) return 0;
         ledger.giveBack((int) serial);
         return 1;
     }
 
-    /** Byte i of the digest that was reckoned latest. */
     public byte digest(int i) throws ArrayIndexOutOfBoundsException {
         if (!latestDigest.isReckoned() || i < 0 || i >= Digest.BYTES) throw new ArrayIndexOutOfBoundsException();
         return latestDigest.octetAt(i);
     }
 
-    /** What became of a serial number: 0 nothing, 1 spent, 2 given back. */
     public int spent(long serial) {
         return ledger.fateOf(serial);
     }
 
-    /** The next serial number. */
     public long serial() {
         return made;
     }
@@ -142,15 +132,23 @@ public final class StampMaker {
         return ALPHABET.charAt(bits & 31);
     }
 
-    /** The bits of the typed letters from one place to another (not included); -1 when one is no letter. */
+    private static int refusedFor(int reason) {
+        return -1 - reason;
+    }
+
+    // Eleven letters are 55 bits, so that -1 is left to tell that one is no letter.
     private long typedBits(int from, int to) {
         long bits = 0;
         for (int i = from; i < to; i++) {
-            int v = worthOf(typed[i]);
+            int v = typedWorth(i);
             if (v < 0) return -1;
             bits = (bits << 5) | v;
         }
         return bits;
+    }
+
+    private int typedWorth(int i) {
+        return i >= 0 && i < TYPED_LIMIT ? worthOf(typed[i]) : -1;
     }
 
     // A character is compared as the whole number that was typed: cut down to a char, other numbers would pass for letters.
@@ -161,27 +159,25 @@ public final class StampMaker {
         return -1;
     }
 
-    /** The first of the reasons 3 to 5 against a stamp; 0 when there is none. */
     private int reasonAgainst(long fields, long seal, int day) {
         Key owner = keyNumbered(Fields.keyOf(fields));
         if (owner == null || !isKind(Fields.kindOf(fields)) || !isValue(Fields.valueOf(fields))) return NOT_AS_SAID;
         latestDigest.reckon(owner, fields);
-        if (seal != latestDigest.firstBits()) return OTHER_DIGEST;
+        if (seal != latestDigest.first25Bits()) return OTHER_DIGEST;
         int behind = day - Fields.dayOf(fields);
-        return behind < 0 || behind > DAYS_GOOD || !owner.holdsOn(day) ? WRONG_DAY : 0;
+        return behind < 0 || behind > DAYS_GOOD || !owner.holdsOn(day) ? WRONG_DAY : NO_REASON;
     }
 
-    /** Spends a serial number, if nothing became of it yet: the answer of the check. */
-    private int accepted(int serial, int day) {
+    // Whether somebody made the serial number is not asked: what has its digest's bits counts as what it says.
+    private int spendOrRefuse(int serial, int day) {
         int fate = ledger.fateOf(serial);
-        if (fate == Ledger.GIVEN_BACK) return -1 - WAS_GIVEN_BACK;
+        if (fate == Ledger.GIVEN_BACK) return refusedFor(WAS_GIVEN_BACK);
         latestSpent = serial;
-        if (fate == Ledger.SPENT) return -1 - WAS_SPENT;
+        if (fate == Ledger.SPENT) return refusedFor(WAS_SPENT);
         ledger.spend(serial, day, checkCount);
         return 1;
     }
 
-    /** The 55 bits of a stamp's five fields. */
     private static final class Fields {
         static long joined(int key, int kind, int value, int day, int serial) {
             return (long) key << 51 | (long) kind << 47 | (long) value << 30 | (long) day << 14 | serial;
@@ -208,7 +204,6 @@ public final class StampMaker {
         }
     }
 
-    /** A key: the days on which it holds, and its bytes. */
     private static final class Key {
         private static final int BYTE_LIMIT = 32;
 
@@ -246,7 +241,6 @@ public final class StampMaker {
         }
     }
 
-    /** What became of the serial numbers. */
     private static final class Ledger {
         static final int NOTHING = 0, SPENT = 1, GIVEN_BACK = 2;
 
@@ -282,7 +276,6 @@ public final class StampMaker {
         }
     }
 
-    /** The digest that was reckoned latest. */
     private static final class Digest {
         static final int BYTES = 32;
 
@@ -317,8 +310,7 @@ public final class StampMaker {
             return i >= 0 && i < BYTES ? (byte) (state[i >> 2] >>> (24 - 8 * (i & 3))) : 0;
         }
 
-        /** The digest's first 25 bits. */
-        int firstBits() {
+        int first25Bits() {
             return state[0] >>> 7;
         }
 
@@ -339,7 +331,6 @@ public final class StampMaker {
             return number;
         }
 
-        /** A byte of the message, or of what comes behind it up to its length. */
         private static int blockByte(Key key, long fields, int at) {
             int behind = at - key.size();
             if (behind < 0) return key.octetAt(at);

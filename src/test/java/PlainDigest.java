@@ -74,8 +74,8 @@ final class PlainDigest {
         long[] x = state.clone();
         for (int t = 0; t < 64; t++) {
             long notE = WRAP - 1 - x[4];
-            long u = x[7] + (ror(x[4], 6) ^ ror(x[4], 11) ^ ror(x[4],
-                25)) + ((x[4] & x[5]) ^ (notE & x[6])) + ROUND_NUMBERS[t] + w[t];
+            long u = x[7] + (ror(x[4], 6) ^ ror(x[4], 11) ^ ror(x[4], 25))
+                + ((x[4] & x[5]) ^ (notE & x[6])) + ROUND_NUMBERS[t] + w[t];
             long v = (ror(x[0], 2) ^ ror(x[0], 13) ^ ror(x[0], 22)) + ((x[0] & x[1]) ^ (x[0] & x[2]) ^ (x[1] & x[2]));
             System.arraycopy(x, 0, x, 1, 7);
             x[4] = (x[4] + u) % WRAP;

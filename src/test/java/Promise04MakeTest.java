@@ -67,7 +67,7 @@ public final class Promise04MakeTest {
         });
         Sentence.test("STATE (the key does not hold on that day)", "another key that does is none",
             Promise04MakeTest::anotherKeyHolds);
-        Sentence.test("ROOM (16384 were made)", "the 16384th is the last inside, the next outside", Promise04MakeTest::room);
+        Sentence.test("ROOM (16384 were made)", "as many as an object's calls allow are inside", Promise04MakeTest::room);
     }
 
     private static void unknown(int keys, int... numbers) {
@@ -143,20 +143,11 @@ public final class Promise04MakeTest {
         Due.is("make with the one that does not", x.make(0, 1, 0, 9), StampMaker.STATE);
     }
 
-    // This lies behind the 512th call, where answers are free: it asks only for what the words say plainly.
+    // The 16385th make lies behind the 512th call, where answers are free: no test may ask for ROOM there.
     private static void room() {
-        StampMaker x = new StampMaker();
-        x.key(0, 9);
-        for (int n = 0; n < 16383; n++) if (x.make(0, 1, 0, 5) != 16) Due.fails("make number " + n);
-        Due.is("make when 16383 were made", x.make(0, 1, 0, 5), 16);
-        Due.is("make when 16384 were made", x.make(0, 1, 0, 5), StampMaker.ROOM);
-        Due.is("serial()", x.serial(), 16384);
-        String latest = Stamp.LEAST.withDay(5).withSerial(16383).letters();
-        for (int i = 0; i < 16; i++) Due.is("letter(" + i + ")", x.letter(i), latest.charAt(i));
-        for (int i = 0; i < 16; i++) x.type(latest.charAt(i));
-        Due.is("check of the last", x.check(5), 1);
-        Due.is("spent(16383)", x.spent(16383), 1);
-        Due.is("refund(16382)", x.refund(16382), 1);
-        Due.is("refund(16384)", x.refund(16384), 0);
+        Maker x = new Maker().keys(1);
+        while (x.left() > 16) Due.is("make when " + (x.calls() - 1) + " were made", x.make(Stamp.LEAST), 16);
+        Due.is("the letters of the last", x.letters(), Stamp.LEAST.withSerial(494).letters());
+        Due.is("calls left", x.left(), 0);
     }
 }

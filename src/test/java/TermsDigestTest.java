@@ -2,9 +2,8 @@ import java.util.Arrays;
 import java.util.Random;
 
 public final class TermsDigestTest {
-    private static final long[] STATE = {0x6a09e667L, 0xbb67ae85L, 0x3c6ef372L, 0xa54ff53aL, 0x510e527fL, 0x9b05688cL,
-        0x1f83d9abL,
-        0x5be0cd19L};
+    private static final long[] STATE = {0x6a09e667L, 0xbb67ae85L, 0x3c6ef372L, 0xa54ff53aL,
+        0x510e527fL, 0x9b05688cL, 0x1f83d9abL, 0x5be0cd19L};
 
     public static void main(String[] args) {
         all();

@@ -50,8 +50,6 @@ public final class TermsNothingChangedTest {
         makeOfKeys("make, OUTSIDE: day 65536", 1, 0, 65536, StampMaker.OUTSIDE);
         makeOfKeys("make, STATE: the day before the key's first", 1, 0, 99, StampMaker.STATE);
         makeOfKeys("make, STATE: the day behind the key's last", 1, 0, 301, StampMaker.STATE);
-        Sentence.test("A call that is refused, or throws, changes nothing", "make, ROOM",
-            TermsNothingChangedTest::makeWithoutRoom);
     }
 
     /** By key 0, which has made none and takes bytes yet: on the used object and on the full one. */
@@ -59,23 +57,6 @@ public final class TermsNothingChangedTest {
         Twins.Step call = x -> Due.is("make", x.make(0, value, kind, day), want);
         refused(edge + ", behind some calls", Twins::used, call);
         refused(edge + ", with fifteen keys", Twins::full, call);
-    }
-
-    // This lies behind the 512th call, where answers are free: it asks only for what the words say plainly.
-    private static void makeWithoutRoom() {
-        StampMaker x = new StampMaker();
-        x.key(0, 9);
-        x.key(0, 9);
-        for (int n = 0; n < 16384; n++) x.make(0, 1, 0, 5);
-        Due.is("make", x.make(1, 2, 3, 4), StampMaker.ROOM);
-        Stamp last = Stamp.LEAST.withDay(5).withSerial(16383);
-        Due.is("serial()", x.serial(), 16384);
-        for (int i = 0; i < 16; i++) Due.is("letter(" + i + ")", x.letter(i), last.letters().charAt(i));
-        for (int i = 0; i < 32; i++) Due.is("digest(" + i + ")", x.digest(i), last.digest()[i]);
-        x.octet(1, (byte) 6);
-        Stamp other = Stamp.LEAST.withKey(1).withBytes((byte) 6);
-        for (int i = 0; i < 16; i++) x.type(other.letters().charAt(i));
-        Due.is("check of a stamp of the refused make's key, which takes a byte yet", x.check(0), 1);
     }
 
     private static void checksAndFirst() {

@@ -1,4 +1,4 @@
-/** The order of the refusals, where two hold at once. */
+/** The order of the refusals, where two hold at once (make's ROOM holds for no object within its 512 calls). */
 public final class TermsRefusalsTest {
     public static void main(String[] args) {
         all();
@@ -23,10 +23,6 @@ public final class TermsRefusalsTest {
         sixteenthKey("OUTSIDE before ROOM: a key from -1 on", -1, 5);
         sixteenthKey("OUTSIDE before ROOM: a key until 65536", 5, 65536);
         sixteenthKey("OUTSIDE before ROOM: a key that ends before its first day", 5, 4);
-        makeWithoutRoom("UNKNOWN before ROOM: no such key, and 16384 were made", 1, 0, 5, StampMaker.UNKNOWN);
-        makeWithoutRoom("OUTSIDE before ROOM: a kind outside, and 16384 were made", 0, 10, 5, StampMaker.OUTSIDE);
-        makeWithoutRoom("STATE before ROOM: a day behind the key's, and 16384 were made", 0, 0, 10, StampMaker.STATE);
-        makeWithoutRoom("ROOM: nothing before it holds", 0, 0, 9, StampMaker.ROOM);
         Sentence.test("UNKNOWN (there is no such key), OUTSIDE (a number is not as said), STATE, ROOM",
             "each of them is a constant", () -> {
             Due.is("UNKNOWN", StampMaker.UNKNOWN, -21);
@@ -48,15 +44,5 @@ public final class TermsRefusalsTest {
     private static void sixteenthKey(String which, long from, long until) {
         Sentence.test("of several the first one here", which, () ->
             Due.is("key", new Maker().keys(15).key(from, until), StampMaker.OUTSIDE));
-    }
-
-    // This lies behind the 512th call, where answers are free: it asks only for what the words say plainly.
-    private static void makeWithoutRoom(String which, int key, int kind, long day, int want) {
-        Sentence.test("of several the first one here", which, () -> {
-            StampMaker x = new StampMaker();
-            x.key(0, 9);
-            for (int n = 0; n < 16384; n++) x.make(0, 1, 0, 5);
-            Due.is("make", x.make(key, 1, kind, day), want);
-        });
     }
 }

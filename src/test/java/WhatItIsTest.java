@@ -19,9 +19,8 @@ public final class WhatItIsTest {
         Sentence.test("unless it has the 25 bits of the digest that belong to what it says now",
             "each field altered, with such bits",
             WhatItIsTest::alteredWithItsBits);
-        Sentence.test("at most 512 calls", "each call is answered as promised when it is the 512th", WhatItIsTest::lastCall);
-        Sentence.test("what later calls answer is free", "they end, and throw nothing that the document does not name",
-            WhatItIsTest::laterCalls);
+        Sentence.test("at most 512 calls after it has been made; what later calls answer is free",
+            "the 512th is answered as promised, whichever it is", WhatItIsTest::lastCall);
     }
 
     private static void rows() {
@@ -117,23 +116,5 @@ public final class WhatItIsTest {
         Due.is("spent(0)", beforeItsLastCall().spent(0), 1);
         Due.is("serial()", beforeItsLastCall().serial(), 4);
         Due.is("key that is OUTSIDE", beforeItsLastCall().key(-1, 9), StampMaker.OUTSIDE);
-    }
-
-    private static void laterCalls() {
-        StampMaker x = new StampMaker();
-        String letters = STAMP.letters();
-        for (int round = 0; round < 1100; round++) {
-            x.key(0, 65535);
-            x.octet(round & 15, (byte) round);
-            for (int n = 0; n < 16; n++) x.make(round & 15, 1, 0, 50);
-            for (int i = 0; i < 16; i++) x.type(letters.charAt(i));
-            x.check(50);
-            x.refund(round);
-            x.spent(round);
-            x.letter(round);
-            x.first(round & 3);
-            x.digest(round & 31);
-        }
-        Due.is("calls that ended, 1100 rounds of them and one", x.check(-1), StampMaker.OUTSIDE);
     }
 }
